@@ -12,7 +12,7 @@ public final class RandomRunsTest {
     private int heads;
 
     public static void main(String[] args) {
-        new RandomRunsTest().all(args.length > 0 ? Integer.parseInt(args[0]) : 300);
+        new RandomRunsTest().all(args.length > 0 ? Integer.parseInt(args[0]) : 100);
     }
 
     private void all(int runs) {
@@ -22,7 +22,7 @@ public final class RandomRunsTest {
         }
         String[] names = {"runs of 5 steps or more", "spent", "refused runs", "joined", "of 200 rows", "domains"};
         for (int k = 0; k < names.length; k++) {
-            check.holds("some were: " + names[k] + " (" + outcomes[k] + ")", runs < 300 || outcomes[k] > 0);
+            check.holds("some were: " + names[k] + " (" + outcomes[k] + ")", runs < 100 || outcomes[k] > 0);
         }
         check.end();
     }
