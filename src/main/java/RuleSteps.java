@@ -114,7 +114,7 @@ public final class RuleSteps {
         int before = trees.size;
         int last = needRun(runner.run(tree, steps, false, spare), before);
         keepRun();
-        latestSpent = runner.canStep(last);
+        latestSpent = runner.moreToDo;
         return last;
     }
 
@@ -494,7 +494,9 @@ public final class RuleSteps {
         private int levels = 0;
         private final int[] around = new int[MOST_DEPTH];
         private final boolean[] inSecond = new boolean[MOST_DEPTH];
+        // What is told of the latest run: how many steps it made, and whether a rule matches yet.
         int made = 0;
+        boolean moreToDo = false;
 
         Runner(Trees itsTrees, Rules itsRules) {
             trees = itsTrees;
@@ -516,6 +518,7 @@ public final class RuleSteps {
                 now = next;
                 made++;
             }
+            moreToDo = canStep(now);
             return now;
         }
 
@@ -527,7 +530,7 @@ public final class RuleSteps {
         }
 
         /** Whether a rule of the run matches somewhere; trees are 30 deep at most, so this is too. */
-        boolean canStep(int tree) {
+        private boolean canStep(int tree) {
             if (tree < 0) {
                 return false;
             }

@@ -145,8 +145,8 @@ public final class NormalTest {
         CHECK.due("and f(fa)", () -> x.head(10), 0);
         CHECK.fails("other ends", x.joins(gg, g));
         CHECK.fails("two ends already", x.joins(a, b));
-        CHECK.holds("a tree and itself", x.joins(gg, gg));
         CHECK.holds("a tree and its end", x.joins(f, g));
+        CHECK.holds("a tree and itself", x.joins(gg, gg));
         CHECK.due("steps are those of normal()", x::steps, 1);
         CHECK.due("rows are those of normal()", () -> x.count(2), 1);
         CHECK.due("the row", () -> x.row(0, 2), g);

@@ -55,6 +55,7 @@ public final class TreesTest {
             int n = name;
             CHECK.due("hole(" + n + ")", () -> x.hole(n), 1 + n);
             CHECK.due("head of hole " + n, () -> x.head(1 + n), 100 + n);
+            CHECK.due("weight of hole " + n, () -> x.measure(1 + n, 0), 1);
             CHECK.due("holes of hole " + n, () -> x.measure(1 + n, 3), 1 << n);
         }
         CHECK.due("hole(0) again", () -> x.hole(0), 1);
