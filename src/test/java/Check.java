@@ -1,24 +1,32 @@
-/** Counts and prints the answers that are not as due. */
+/** Counts and prints the answers that are not as due, each under the sentence that asks for it. */
 final class Check {
     interface Call {
-        long answer();
+        Object answer();
     }
 
     private final String test;
+    private String sentence = "";
     private int wrong = 0;
 
     Check(String test) {
         this.test = test;
     }
 
-    static long of(boolean answer) {
-        return answer ? 1 : 0;
+    /** One test: what holds if this sentence of the document does. */
+    void test(String itsSentence, Runnable body) {
+        sentence = " \"" + itsSentence + "\"";
+        try {
+            body.run();
+        } catch (RuntimeException e) {
+            tell("the test itself was ended by " + e);
+        }
+        sentence = "";
     }
 
     /** What a call does, as a text: its answer, or the name of what it throws. */
     static String outcome(Call call) {
         try {
-            return Long.toString(call.answer());
+            return String.valueOf(call.answer());
         } catch (RuntimeException e) {
             return "throws." + e.getClass().getSimpleName();
         }
@@ -26,21 +34,29 @@ final class Check {
 
     void same(String what, String got, String want) {
         if (!got.equals(want)) {
-            wrong++;
-            System.out.println(test + ": " + what + " answered " + got + ", due is " + want);
+            tell(what + " answered " + got + ", due is " + want);
         }
     }
 
-    void due(String what, Call call, long want) {
-        same(what, outcome(call), Long.toString(want));
+    private void tell(String what) {
+        wrong++;
+        System.out.println(test + sentence + ": " + what);
     }
 
-    void holds(String what, boolean answer) {
-        same(what, Boolean.toString(answer), "true");
+    void due(String what, Call call, Object want) {
+        same(what, outcome(call), String.valueOf(want));
     }
 
-    void fails(String what, boolean answer) {
-        same(what, Boolean.toString(answer), "false");
+    void that(String what, boolean holds) {
+        due(what, () -> holds, true);
+    }
+
+    void yes(String what, Call call) {
+        due(what, call, true);
+    }
+
+    void no(String what, Call call) {
+        due(what, call, false);
     }
 
     void noIndex(String what, Call call) {
@@ -53,6 +69,21 @@ final class Check {
 
     void noState(String what, Call call) {
         same(what, outcome(call), "throws.IllegalStateException");
+    }
+
+    /** The four cells of a row. */
+    void row(Counted x, int k, int... want) {
+        for (int what = 0; what < 4; what++) {
+            int w = what;
+            due("row(" + k + ", " + w + ")", () -> x.row(k, w), want[w]);
+        }
+    }
+
+    /** Calls that are refused: they leave all as it was. */
+    void nothingChanges(Counted x, Runnable refusedCalls) {
+        String before = Scenes.state(x);
+        refusedCalls.run();
+        same("the state behind refused calls", Scenes.state(x), before);
     }
 
     int wrong() {

@@ -15,7 +15,7 @@ public final class FaceTest {
     private static final String STATE = "IllegalStateException";
 
     public static void main(String[] args) {
-        CHECK.holds("public and final", Modifier.isPublic(RuleSteps.class.getModifiers())
+        CHECK.that("public and final", Modifier.isPublic(RuleSteps.class.getModifiers())
                 && Modifier.isFinal(RuleSteps.class.getModifiers()));
         publicMethods();
         hiddenMembers();
@@ -64,12 +64,12 @@ public final class FaceTest {
             }
         }
         for (String method : face()) {
-            CHECK.holds("there is " + method, found.contains(method));
+            CHECK.that("there is " + method, found.contains(method));
         }
         CHECK.due("public methods", found::size, face().size());
         Constructor<?>[] constructors = RuleSteps.class.getDeclaredConstructors();
         CHECK.due("constructors", () -> constructors.length, 1);
-        CHECK.holds("a public one", Modifier.isPublic(constructors[0].getModifiers()));
+        CHECK.that("a public one", Modifier.isPublic(constructors[0].getModifiers()));
     }
 
     private static void hiddenMembers() {
@@ -81,12 +81,12 @@ public final class FaceTest {
         }
         for (Method method : RuleSteps.class.getDeclaredMethods()) {
             boolean hidden = Modifier.isPrivate(method.getModifiers()) && !open.contains(method.getName());
-            CHECK.holds(method + " is public or private with a name of its own",
+            CHECK.that(method + " is public or private with a name of its own",
                     hidden || Modifier.isPublic(method.getModifiers()));
         }
         for (Field field : RuleSteps.class.getDeclaredFields()) {
-            CHECK.holds(field + " is private", Modifier.isPrivate(field.getModifiers()));
-            CHECK.holds(field + " is final if static", !Modifier.isStatic(field.getModifiers())
+            CHECK.that(field + " is private", Modifier.isPrivate(field.getModifiers()));
+            CHECK.that(field + " is final if static", !Modifier.isStatic(field.getModifiers())
                     || Modifier.isFinal(field.getModifiers()));
         }
     }
@@ -94,7 +94,7 @@ public final class FaceTest {
     private static void innerClasses() {
         for (Class<?> inner : RuleSteps.class.getDeclaredClasses()) {
             int modifiers = inner.getModifiers();
-            CHECK.holds(inner + " is static, and not open to all", Modifier.isStatic(modifiers)
+            CHECK.that(inner + " is static, and not open to all", Modifier.isStatic(modifiers)
                     && !Modifier.isPublic(modifiers) && !Modifier.isProtected(modifiers));
         }
     }
