@@ -19,8 +19,10 @@ public final class Promise08RewriteTest {
     private static void steps() {
         CHECK.test("MATCHES: plain trees for its holes, the same for the same name", Promise08RewriteTest::sameHoles);
         CHECK.test("MATCHES: with which it is that tree", Promise08RewriteTest::isThatTree);
+        CHECK.test("MATCHES: the deepest and the heaviest trees", Promise08RewriteTest::largestTrees);
         CHECK.test("places that have none such within (but itself)", Promise08RewriteTest::fromWithin);
         CHECK.test("of its places that with the lowest number", Promise08RewriteTest::lowestPlace);
+        CHECK.test("of its places: one of 1000", Promise08RewriteTest::farPlace);
         CHECK.test("by the rule with the lowest number that matches there", Promise08RewriteTest::lowestRule);
         CHECK.test("the tree there becomes the right one with the trees of its holes", Promise08RewriteTest::rightTrees);
         CHECK.test("New trees of a step get their numbers so", Promise08RewriteTest::numbers);
@@ -223,6 +225,28 @@ public final class Promise08RewriteTest {
         CHECK.due("it isn't the other way round", () -> x.rewrite(ba, 200), ba);
     }
 
+    private static void largestTrees() {
+        Counted x = new Counted();
+        int a = x.leaf(0);
+        int h = x.hole(0);
+        int deepHole = Scenes.around(x, 0, h, 30);
+        int deepLeaf = Scenes.around(x, 0, a, 30);
+        x.rule(deepHole, h, -1);
+        x.rule(x.node(1, h, -1), deepHole, -1);
+        CHECK.due("a left tree 30 deep", () -> x.rewrite(deepLeaf, 1), a);
+        int d29 = x.at(deepLeaf, 1);
+        CHECK.due("it isn't 29 deep", () -> x.rewrite(d29, 1), d29);
+        CHECK.due("a right tree 30 deep", () -> x.rewrite(x.node(1, a, -1), 1), deepLeaf);
+        int w1000 = Scenes.heavy(x, 1000);
+        int w999 = x.at(w1000, 1);
+        x.rule(w1000, a, -1);
+        CHECK.due("a left tree that weighs 1000", () -> x.rewrite(w1000, 1), a);
+        CHECK.row(x, 0, 2, 0, w1000, a);
+        CHECK.due("it doesn't weigh 999", () -> x.rewrite(w999, 1), w999);
+        x.rule(x.node(3, a, -1), w1000, -1);
+        CHECK.due("a right tree that weighs 1000", () -> x.rewrite(x.node(3, a, -1), 1), w1000);
+    }
+
     private static void fromWithin() {
         Counted x = new Counted();
         int a = x.leaf(0);
@@ -265,6 +289,20 @@ public final class Promise08RewriteTest {
         int twice = x.node(6, fa, fa);
         x.rewrite(twice, 1);
         CHECK.row(x, 0, 0, 1, twice, x.node(6, a, fa));
+    }
+
+    private static void farPlace() {
+        Counted x = new Counted();
+        int a = x.leaf(0);
+        x.rule(x.node(1, a, -1), a, -1);
+        int ga = x.node(1, a, -1);
+        int w997 = Scenes.heavy(x, 997);
+        int whole = x.node(7, w997, ga);
+        CHECK.due("its places", () -> x.measure(whole, 1), 1000);
+        CHECK.due("the tree at the last but one", () -> x.at(whole, 998), ga);
+        int last = x.rewrite(whole, 200);
+        CHECK.row(x, 0, 0, 998, whole, last);
+        CHECK.due("the last tree", () -> x.node(7, w997, a), last);
     }
 
     private static void lowestRule() {
